@@ -302,14 +302,10 @@ public final class SeaCells {
     }
 
     private boolean bearsNest(int b) {
-        boolean bears = false;
-        for (int k = 0; k < BOARDS; k++) bears |= liesOn(k, b);
-        return bears;
-    }
-
-    /** Whether the BOARD in place k is a NEST right on the one in place b. */
-    private boolean liesOn(int k, int b) {
-        return boards[k].there && boards[k].kind == NEST && boards[k].lie.on == b;
+        for (int k = 0; k < BOARDS; k++) {
+            if (boards[k].there && boards[k].kind == NEST && boards[k].lie.on == b) return true;
+        }
+        return false;
     }
 
     /** Whether the BOARD in place b is a NEST in the one in place n, at whatever depth. */
@@ -329,9 +325,15 @@ public final class SeaCells {
         // a chain of NESTS is no longer than there are BOARDS
         for (int round = 0; round < BOARDS; round++) {
             for (int k = 0; k < BOARDS; k++) {
-                if (boards[k].there && boards[k].kind == NEST && !boards[boards[k].lie.on].there) removeBoard(k);
+                if (boards[k].there && boards[k].kind == NEST && !hasGround(k)) removeBoard(k);
             }
         }
+    }
+
+    /** Whether the BOARD on which the NEST in place k lies is there. */
+    private boolean hasGround(int k) {
+        int on = boards[k].lie.on;
+        return isBoard(on) && boards[on].there;
     }
 
     private void removeBoard(int b) {
@@ -772,8 +774,8 @@ public final class SeaCells {
 
     /** What pushes the WATER of a BOARD. */
     private static final class Laws {
-        private int pull;
-        private int drag;
+        private int pull = 4;
+        private int drag = 10;
         private int windX;
         private int windY;
 
@@ -897,16 +899,14 @@ public final class SeaCells {
         }
 
         boolean hasSide(int side) {
-            return side >= 0 && side < 2 * w * h && (isUpper(side) ? side / 2 + w < w * h : side / 2 % w < w - 1);
-        }
-
-        static boolean isUpper(int side) {
-            return side % 2 == 1;
+            if (side < 0 || side >= 2 * w * h) return false;
+            int cell = side / 2;
+            return side % 2 == 1 ? cell + w < w * h : cell % w < w - 1;
         }
 
         /** The CELL to which a SIDE leads from its own. */
         int farCell(int side) {
-            return side / 2 + (isUpper(side) ? w : 1);
+            return side % 2 == 1 ? side / 2 + w : side / 2 + 1;
         }
 
         int level(int cell) {
@@ -932,7 +932,7 @@ public final class SeaCells {
 
         int windAt(int side) {
             if (kind == ICED) return 0;
-            return isUpper(side) ? laws.windY : laws.windX;
+            return side % 2 == 1 ? laws.windY : laws.windX;
         }
 
         void shutPosts(int set) {
@@ -1177,15 +1177,13 @@ public final class SeaCells {
         private int pushed(Board b, int side) {
             int p = side / 2;
             int q = b.farCell(side);
-            int f = b.flow[side] + b.laws.pull * (b.level(p) - b.level(q)) / 8 + b.windAt(side);
-            f -= f / b.laws.drag;
-            if (f > 0 && !leads(b, p, q)) return 0;
-            if (f < 0 && !leads(b, q, p)) return 0;
+            int levelP = b.level(p);
+            int levelQ = b.level(q);
+            int f = b.flow[side] + b.laws.pull * (levelP - levelQ) / 8 + b.windAt(side);
+            if (b.laws.drag > 0) f -= f / b.laws.drag;
+            if (f > 0 && (b.water[p] == 0 || b.bottom[q] >= levelP)) return 0;
+            if (f < 0 && (b.water[q] == 0 || b.bottom[p] >= levelQ)) return 0;
             return f;
-        }
-
-        private static boolean leads(Board b, int from, int to) {
-            return b.water[from] > 0 && b.bottom[to] < b.level(from);
         }
 
         private void limitFlows(Board b) {
