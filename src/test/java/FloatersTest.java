@@ -233,7 +233,7 @@ public final class FloatersTest {
         }
         Due.is(led(0, 0, 0).theTone(0), 4);
         Due.is(led(5).theTone(0), 4);
-        // of 12 and more alike ones the least: five READINGS, all ahead of half of it
+        // of 12 and more alike ones the least: three READINGS, all ahead of half of it
         Due.is(led(1, 1, 1).theTone(0), 12);
     }
 
