@@ -79,7 +79,7 @@ public final class FaceTest {
             for (Field f : one.getDeclaredFields()) fields += Modifier.isStatic(f.getModifiers()) ? 0 : 1;
             if (fields > 20) wrong("more than twenty fields: " + one.getName());
             for (Method m : one.getDeclaredMethods()) {
-                if (names.contains(m.getName())) wrong(one.getName() + " has a method of the face's name " + m.getName());
+                if (names.contains(m.getName())) wrong(one.getName() + " has the face's name " + m.getName());
             }
         }
     }
@@ -88,7 +88,8 @@ public final class FaceTest {
         String code = source.replaceAll("(?s)/\\*.*?\\*/", "").replaceAll("//[^\n]*", "");
         String[] banned = {"\\bthrow\\b", "\\btry\\b", "\\bcatch\\b", "\\bsynchronized\\b", "\\bassert\\b", "->", "::",
             "\\bpackage\\b", "\\bimport\\b", "\\bObject\\b", "Exact\\b", "\\bequals\\b", "\\bhashCode\\b",
-            "\\btoString\\b", "\\bSystem\\.(?!arraycopy\\b)", "\\bnull\\b", "[^\\x00-\\x7f]", "\\bThread\\b", "\\bRandom\\b"};
+            "\\btoString\\b", "\\bSystem\\.(?!arraycopy\\b)", "\\bnull\\b", "[^\\x00-\\x7f]", "\\bThread\\b",
+            "\\bRandom\\b"};
         for (String word : banned) {
             Matcher m = Pattern.compile(word).matcher(code);
             if (m.find()) wrong("the source has " + m.group());
@@ -98,7 +99,8 @@ public final class FaceTest {
         for (String line : code.split("\n")) {
             boolean inField = line.contains("private ") && line.contains("= new ");
             boolean inConstructor = line.contains("for (int ") && line.contains("] = new ")
-                    || line.trim().equals("places = new int[count][most];") || line.trim().equals("sizes = new int[count];");
+                    || line.trim().equals("places = new int[count][most];")
+                    || line.trim().equals("sizes = new int[count];");
             if (line.contains("new ") && !inField && !inConstructor) made++;
         }
         Due.is(made, 0);

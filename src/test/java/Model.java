@@ -802,7 +802,8 @@ final class Model {
             for (int y = 0; y < fine.h / 2; y++) {
                 long water = fine.on.water[fine.onX + x][fine.onY + y];
                 long[] four = new long[4];
-                for (int i = 0; i < 4; i++) four[i] = fine.water[2 * x + i % 2][2 * y + i / 2] + water - fine.mark[x][y];
+                long d = water - fine.mark[x][y];
+                for (int i = 0; i < 4; i++) four[i] = fine.water[2 * x + i % 2][2 * y + i / 2] + d;
                 for (int i = 0; i < 4; i++) {
                     if (four[i] >= 0) continue;
                     long lacks = -four[i];

@@ -52,31 +52,23 @@ public final class ToldTest {
         Due.told(y, y.mean(5), 6);
         Due.told(y, y.bottom(0, 1, -8), -7);
         Due.told(y, y.cell(0, 1, 0), -8);
-        Due.is(y.flow(0, 0), 1);
-        long flow = y.asked();
+        long flow = Due.tell(y, y.flow(0, 0));
         Due.told(y, y.told(0, 3), 3);
         Due.told(y, y.flow(0, 0), flow);
         Due.told(y, y.mark(0, 1), 21);
-        Due.is(y.reading(0, 0), 1);
-        long reading = y.asked();
-        Due.is(y.cell(0, 4, 2), 1);
-        Due.is(y.asked(), reading);
-        Due.is(y.part(true), 1);
-        long part = y.asked();
-        y.told(0, 3);
+        long reading = Due.tell(y, y.reading(0, 0));
+        Due.told(y, y.cell(0, 4, 2), reading);
+        long part = Due.tell(y, y.part(true));
+        Due.told(y, y.told(0, 3), 3);
         Due.told(y, y.part(true), part);
-        y.told(0, 3);
-        Due.is(y.up(1), 1);
-        Due.is(y.asked() == 3 ? 1 : 0, 0);
-        y.water(1, 0, 1);
-        y.water(1, 1, 1);
-        y.water(1, 2, 1);
-        y.water(1, 3, 1);
-        y.up(1);
-        y.water(0, 1, 3);
-        Due.is(y.down(1), 1);
-        Due.is(y.asked() % 4, 0);
-        Due.is(y.fit(0, 0, 0) > 0 ? 1 : 0, 1);
+        long beneath = Due.tell(y, y.cell(0, 1, 1));
+        for (int i = 0; i < 4; i++) y.water(1, i, 5);
+        Due.told(y, y.up(1), 5 - beneath);
+        y.water(0, 1, 7);
+        Due.told(y, y.down(1), 8);
+        // the RIM comes to 21 and 41, the ROW has 40 and 20
+        Due.is(y.fit(0, 0, 0), 1);
+        Due.is(y.asked(), 40);
     }
 
     private static void askedStays() {
