@@ -2,35 +2,33 @@
 final class Due {
     private static int compared;
     private static int wrong;
+    private static String sentence = "";
 
     private Due() {
     }
 
+    /** The sentence of the document that what follows stands for: it is told with what differs. */
+    static void says(String words) {
+        sentence = words;
+    }
+
     static void is(long got, long want) {
         compared++;
-        if (got == want) return;
-        wrong++;
-        StackTraceElement at = new Throwable().getStackTrace()[1];
-        System.out.println(at.getFileName() + ":" + at.getLineNumber() + ": answered " + got + ", due is " + want);
+        if (got != want) tellWrong("answered " + got + ", due is " + want);
     }
 
     /** A call that answers 1 and tells the rest by asked(). */
     static void told(SeaCells x, int answer, long want) {
         compared++;
         if (answer == 1 && x.asked() == want) return;
-        wrong++;
-        StackTraceElement at = new Throwable().getStackTrace()[1];
-        System.out.println(at.getFileName() + ":" + at.getLineNumber() + ": answered " + answer + " and told "
-                + x.asked() + ", due is 1 and " + want);
+        tellWrong("answered " + answer + " and told " + x.asked() + ", due is 1 and " + want);
     }
 
     /** What a call tells by asked(), which has to answer 1. */
     static long tell(SeaCells x, int answer) {
         compared++;
         if (answer == 1) return x.asked();
-        wrong++;
-        StackTraceElement at = new Throwable().getStackTrace()[1];
-        System.out.println(at.getFileName() + ":" + at.getLineNumber() + ": answered " + answer + ", due is 1");
+        tellWrong("answered " + answer + ", due is 1");
         return 0;
     }
 
@@ -40,10 +38,7 @@ final class Due {
         int answer = call.getAsInt();
         compared++;
         if (answer == SeaCells.FINDING && x.finding() == finding && x.findings(finding) == before + 1) return;
-        wrong++;
-        StackTraceElement at = new Throwable().getStackTrace()[1];
-        System.out.println(at.getFileName() + ":" + at.getLineNumber() + ": answered " + answer + " with finding "
-                + x.finding() + ", due is -3 with finding " + finding);
+        tellWrong("answered " + answer + " with finding " + x.finding() + ", due is -3 with finding " + finding);
     }
 
     /** A call that is refused and changes nothing but, for FINDING, what is found. */
@@ -55,10 +50,7 @@ final class Due {
         compared++;
         boolean same = x.digest() == digest && x.asked() == asked;
         if (answer == want && same && (want == SeaCells.FINDING || x.finding() == finding)) return;
-        wrong++;
-        StackTraceElement at = new Throwable().getStackTrace()[1];
-        System.out.println(at.getFileName() + ":" + at.getLineNumber() + ": answered " + answer + ", due is " + want
-                + (same ? "" : ", and it changed something"));
+        tellWrong("answered " + answer + ", due is " + want + (same ? "" : ", and it changed something"));
     }
 
     /** Writes a TEXT, so long as it is and no longer. */
@@ -76,5 +68,15 @@ final class Due {
     static void end() {
         System.out.println(wrong == 0 ? compared + " answers are as due" : wrong + " answers are not as due");
         if (wrong != 0 || compared == 0) System.exit(1);
+    }
+
+    private static void tellWrong(String what) {
+        wrong++;
+        StackTraceElement[] at = new Throwable().getStackTrace();
+        StringBuilder lines = new StringBuilder(at[2].getFileName());
+        // from the line that compares to the one in main
+        for (int i = 2; i < at.length; i++) lines.append(':').append(at[i].getLineNumber());
+        System.out.println(lines + " " + what);
+        if (!sentence.isEmpty()) System.out.println("    where the document says: " + sentence);
     }
 }
