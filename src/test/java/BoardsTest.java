@@ -403,6 +403,11 @@ public final class BoardsTest {
     }
 
     private static void keep() {
+        keep(0);
+        keep(7);
+    }
+
+    private static void keep(int steps) {
         SeaCells x = new SeaCells();
         Due.finds(x, () -> x.keep(0, 1), NOTHING);
         Due.refused(x, () -> x.keep(0, 0), BAD);
@@ -430,9 +435,8 @@ public final class BoardsTest {
         Due.is(x.count(3), 1);
         Due.is(x.count(4), 1);
         Due.finds(x, () -> x.told(2, 0), NOTHING);
-        sameBoards(x, 0, 1);
-        Due.is(x.step(0, 7), 7);
-        Due.is(x.step(1, 7), 7);
+        Due.is(x.step(0, steps), steps);
+        Due.is(x.step(1, steps), steps);
         sameBoards(x, 0, 1);
         Due.is(x.river(1, 0, 0), 2);
         Due.is(x.post(1, 0), 2);
@@ -443,7 +447,7 @@ public final class BoardsTest {
         Due.refused(x, () -> x.keep(0, -1), BAD);
         Due.refused(x, () -> x.keep(5, 5), BAD);
         Due.finds(x, () -> x.keep(5, 0), NOTHING);
-        Due.told(x, x.told(0, 3), 11);
+        Due.told(x, x.told(0, 3), 4 + steps);
     }
 
     private static void sameBoards(SeaCells x, int a, int b) {
@@ -490,46 +494,46 @@ public final class BoardsTest {
     }
 
     private static void mirror() {
+        for (int w = 4; w <= 5; w++) mirrorOf(w, 0);
+        for (int w = 4; w <= 5; w++) mirrorOf(w, 5);
+    }
+
+    private static void mirrorOf(int w, int steps) {
         SeaCells x = new SeaCells();
-        for (int w = 4; w <= 5; w++) {
-            x.board(0, 1, w, 2);
-            x.row(0, 1);
-            x.lay(0, 0, 90);
-            x.law(0, 3, 5);
-            x.wind(0, 11, 4);
-            x.river(0, w, 13);
-            x.gate(0, 0, true);
-            x.gate(0, 2 * w + 2, true);
-            x.gate(0, 3, true);
-            for (int c = 0; c < 2 * w; c++) {
-                x.water(0, c, 200 + 31 * c);
-                x.bottom(0, c, 7 * c);
-                for (int k = 0; k < 3; k++) x.spill(0, c, k, 100 * k + c);
-            }
-            x.step(0, 3);
-            x.boat(3, 0, w + 1, 1000);
-            x.gauge(3, 0, w + 1);
-            x.post(0, 0);
-            x.keep(0, 1);
-            x.boat(4, 1, w + 1, 1);
-            Due.is(x.mirror(0), 1);
-            mirrored(x, w);
-            Due.is(x.where(3), 2 * w - 2);
-            Due.is(x.where(4), w + 1);
-            x.boat(3, 0, 2 * w - 2, 1);
-            Due.is(x.step(0, 5), 5);
-            Due.is(x.step(1, 5), 5);
-            mirrored(x, w);
-            int there = x.where(4);
-            Due.is(x.where(3), there - there % w + w - 1 - there % w);
-            long read = Due.tell(x, x.reading(3, 0));
-            Due.told(x, x.cell(0, 2 * w - 2, 2), read);
-            x.tide(0, 0, 0);
-            x.step(0, 1);
-            Due.told(x, x.cell(0, 0, 2), 90);
-            Due.told(x, x.cell(0, w, 2), 90);
-            Due.is(x.post(0, 0), 2);
+        x.board(0, 1, w, 2);
+        Due.rowOf(x, 0, 90);
+        x.law(0, 3, 5);
+        x.wind(0, 11, 4);
+        x.river(0, w, 13);
+        x.gate(0, 0, true);
+        x.gate(0, 2 * w + 2, true);
+        x.gate(0, 3, true);
+        for (int c = 0; c < 2 * w; c++) {
+            x.water(0, c, 200 + 31 * c);
+            x.bottom(0, c, 7 * c);
+            for (int k = 0; k < 3; k++) x.spill(0, c, k, 100 * k + c);
         }
+        x.step(0, 3);
+        x.boat(3, 0, w + 1, 1);
+        x.gauge(3, 0, w + 1);
+        x.post(0, 0);
+        x.keep(0, 1);
+        x.boat(4, 1, w + 1, 1);
+        Due.is(x.mirror(0), 1);
+        Due.is(x.where(3), 2 * w - 2);
+        Due.is(x.where(4), w + 1);
+        Due.is(x.step(0, steps), steps);
+        Due.is(x.step(1, steps), steps);
+        mirrored(x, w);
+        int there = x.where(4);
+        Due.is(x.where(3), there - there % w + w - 1 - there % w);
+        x.tide(0, 0, 0);
+        x.step(0, 1);
+        long read = Due.tell(x, x.reading(3, 0));
+        Due.told(x, x.cell(0, 2 * w - 2, 2), read);
+        Due.told(x, x.cell(0, 0, 2), 90);
+        Due.told(x, x.cell(0, w, 2), 90);
+        Due.is(x.post(0, 0), 2);
     }
 
     /** BOARD 0 is BOARD 1 in the mirror. */

@@ -16,6 +16,7 @@ public final class CallEdgesTest {
         meanWithoutNone();
         textAnew();
         boardAnew();
+        boardAnewHasNoTide();
         boardTakesNestsAlong();
         dropAtWhateverDepth();
         dropOfANestAlone();
@@ -30,6 +31,8 @@ public final class CallEdgesTest {
         keepNests();
         keepNoFloaters();
         mirrorOfAllWidths();
+        mirrorOfEach();
+        mirrorOfFlows();
         mirrorLeavesTheRim();
         mirrorRefused();
         askedStaysBehindOthers();
@@ -39,6 +42,7 @@ public final class CallEdgesTest {
         findingsEach();
         findingIsTheLatest();
         digestOfMissing();
+        digestByHand();
         digestIsOfAll();
         digestLeavesAsked();
         Due.end();
@@ -187,6 +191,27 @@ public final class CallEdgesTest {
         Due.is(x.reading(1, 0), 1);
         Due.is(x.count(2), 3);
         Due.is(boardShown(x, 0), fresh);
+    }
+
+    private static void boardAnewHasNoTide() {
+        Due.says("board: A BOARD of KIND 0, 1 or 3 (anew ..): STEPS, RAIN, LENT 0, no RIVERS, no TIDE, none told by post()");
+        for (int kind : new int[] {1, 3}) {
+            SeaCells x = new SeaCells();
+            x.board(0, kind, 2, 2);
+            Due.rowOf(x, 0, 50, 70);
+            x.tide(0, 0, 9);
+            x.river(0, 1, 9);
+            x.post(0, 0);
+            x.step(0, 3);
+            Due.told(x, x.mark(0, 1), 79);
+            Due.is(x.board(0, kind, 2, 2), 4);
+            Due.is(x.mark(0, 1), NONE);
+            Due.is(x.step(0, 1), 1);
+            int[] due = {kind, 2, 2, 1, 0, 0, 0, 0, 0, 0, 4};
+            for (int what = 0; what <= 10; what++) Due.told(x, x.told(0, what), due[what]);
+            Due.is(x.river(0, 0, 0), 1);
+            Due.is(x.post(0, 0), 1);
+        }
     }
 
     private static SeaCells fresh() {
@@ -508,6 +533,86 @@ public final class CallEdgesTest {
         }
     }
 
+    private static void mirrorOfEach() {
+        Due.says("mirror: x becomes W - 1 less x (.. WIND x, RIVERS, BOATS, GAUGES, too)");
+        for (int w = 2; w <= 8; w++) {
+            SeaCells x = new SeaCells();
+            x.board(0, 0, w, 2);
+            for (int c = 0; c < 2 * w; c++) {
+                x.bottom(0, c, -c);
+                x.water(0, c, 1000 + c);
+                for (int stuff = 0; stuff < 3; stuff++) x.spill(0, c, stuff, 100 * stuff + c);
+            }
+            x.boat(0, 0, 0, 1000);
+            x.boat(1, 0, 2 * w - 1, 1000);
+            x.gauge(0, 0, w);
+            Due.is(x.mirror(0), 1);
+            for (int c = 0; c < 2 * w; c++) {
+                int was = c < w ? w - 1 - c : 3 * w - 1 - c;
+                Due.told(x, x.cell(0, c, 0), -was);
+                Due.told(x, x.cell(0, c, 1), 1000 + was);
+                for (int stuff = 0; stuff < 3; stuff++) Due.told(x, x.cell(0, c, 3 + stuff), 100 * stuff + was);
+            }
+            Due.is(x.where(0), w - 1);
+            Due.is(x.where(1), w);
+            // WIND x and RIVERS show in the next STEP
+            SeaCells y = new SeaCells();
+            y.board(0, 0, w, 2);
+            y.law(0, 4, 1000);
+            y.wind(0, 7, 3);
+            y.river(0, 0, 1);
+            y.river(0, w, 20);
+            y.river(0, 2 * w - 1, 300);
+            y.river(0, 0, 4);
+            Due.is(y.mirror(0), 1);
+            y.step(0, 1);
+            for (int c = 0; c < 2 * w; c++) {
+                int due = (c == w - 1 ? 5 : 0) + (c == 2 * w - 1 ? 20 : 0) + (c == w ? 300 : 0);
+                Due.told(y, y.cell(0, c, 1), due);
+            }
+            for (int c = 0; c < 2 * w; c++) y.water(0, c, 500);
+            y.step(0, 1);
+            Due.told(y, y.flow(0, 0), -7);
+            Due.told(y, y.flow(0, 1), 3);
+        }
+    }
+
+    private static void mirrorOfFlows() {
+        Due.says("mirror: (FLOWS and gates of right SIDES likewise, turned ..)");
+        for (int w = 2; w <= 8; w++) {
+            SeaCells x = new SeaCells();
+            x.board(0, 0, w, 2);
+            for (int c = 0; c < 2 * w; c++) x.water(0, c, 900 + 13 * c * c % 97);
+            x.step(0, 1);
+            long[] flows = new long[4 * w];
+            for (int side = 0; side < 4 * w; side++) {
+                if (isSide(side, w)) flows[side] = Due.tell(x, x.flow(0, side));
+            }
+            // one gate each time, so that it shows where it comes to
+            int shut = w % 2 == 0 ? 2 * w : 1;
+            x.gate(0, shut, true);
+            Due.is(x.mirror(0), 1);
+            for (int side = 0; side < 4 * w; side++) {
+                if (!isSide(side, w)) continue;
+                int was = mirrored(side, w);
+                Due.told(x, x.flow(0, side), side % 2 == 0 ? -flows[was] : flows[was]);
+                Due.is(x.gate(0, side, false), was == shut ? 1 : 0);
+            }
+        }
+    }
+
+    /** Of 2 lines. */
+    private static boolean isSide(int side, int w) {
+        return side % 2 == 0 ? side / 2 % w < w - 1 : side < 2 * w;
+    }
+
+    private static int mirrored(int side, int w) {
+        int at = side / 2 % w;
+        int line = side / 2 / w;
+        int there = side % 2 == 0 ? w - 2 - at : w - 1 - at;
+        return 2 * (line * w + there) + side % 2;
+    }
+
     private static void mirrorLeavesTheRim() {
         Due.says("mirror: a TIDAL one keeps its RIM at x 0");
         SeaCells x = new SeaCells();
@@ -751,6 +856,52 @@ public final class CallEdgesTest {
         h = fold(h, 0);
         for (int k = 0; k < 5; k++) h = fold(h, -1);
         Due.is(x.digest(), fold(h, 0));
+    }
+
+    private static void digestByHand() {
+        Due.says("digest: h = 17; then h = 31 h + v for each v: of each BOARD .., of each SIDE (by numbers; none where there"
+                + " is none) FLOW, and 1 or 0 (shut); of each BOAT ..; of each GAUGE ..; of each ROW and TEXT");
+        SeaCells x = new SeaCells();
+        x.board(1, 1, 2, 2);
+        x.board(4, 3, 3, 1);
+        for (int c = 0; c < 4; c++) x.water(1, c, 100 + 50 * c);
+        for (int c = 0; c < 3; c++) x.water(4, c, c == 1 ? 0 : 70);
+        for (int stuff = 0; stuff < 3; stuff++) x.spill(1, 3, stuff, 1000 * stuff + 10);
+        x.bottom(1, 0, -7);
+        x.bottom(4, 1, 8);
+        x.river(1, 1, 6);
+        x.gate(4, 0, true);
+        x.gate(1, 1, true);
+        Due.rowOf(x, 0, 90, NONE, 80);
+        x.tide(1, 0, 3);
+        x.boat(3, 1, 1, 1000);
+        x.boat(6, 4, 2, 9);
+        x.gauge(0, 1, 0);
+        x.step(1, 3);
+        x.lose(0, 1);
+        x.gauge(5, 4, 1);
+        Due.write(x, 2, "S1 ");
+        long h = fold(17, -1);
+        h = boardBy(x, h, 1, new int[] {0, 1, 3, 4}, 1);
+        h = fold(h, -1, -1);
+        h = boardBy(x, h, 4, new int[] {0, 2}, 0);
+        h = fold(h, -1, -1, -1, -1, 1, x.where(3), 1000, -1, -1, 4, x.where(6), 9, -1);
+        // the RIM is led to 93, -6 and 83; of its lower CELL the BOTTOM is -7
+        h = fold(h, 1, 0, 3, 93, NONE, 83, -1, -1, -1, -1, 4, 1, 0, -1, -1);
+        h = fold(h, 3, 90, NONE, 80, -1, -1, -1, -1, -1);
+        h = fold(h, -1, -1, 3, 'S', '1', ' ', -1, -1, -1);
+        Due.is(x.digest(), h);
+    }
+
+    private static long boardBy(SeaCells x, long before, int b, int[] sides, int shut) {
+        long h = before;
+        for (int what = 0; what <= 10; what++) h = fold(h, Due.tell(x, x.told(b, what)));
+        int cells = (int) (Due.tell(x, x.told(b, 1)) * Due.tell(x, x.told(b, 2)));
+        for (int c = 0; c < cells; c++) {
+            for (int what : new int[] {0, 1, 3, 4, 5}) h = fold(h, Due.tell(x, x.cell(b, c, what)));
+        }
+        for (int side : sides) h = fold(h, Due.tell(x, x.flow(b, side)), side == shut ? 1 : 0);
+        return h;
     }
 
     private static void digestOf(int least, ToIntFunction<SeaCells> call) {

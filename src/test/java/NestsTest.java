@@ -261,7 +261,7 @@ public final class NestsTest {
         x.board(0, 0, 5, 4);
         for (int c = 0; c < 20; c++) x.water(0, c, 37 * c % 101);
         x.nest(1, 0, 1, 1, 3, 2);
-        for (int turn = 0; turn < 6; turn++) {
+        for (int turn = 0; turn < 4; turn++) {
             x.step(1, 3);
             long ahead = Due.tell(x, x.told(1, 4)) + Due.tell(x, x.mark(1, 2));
             long before = beneath(x);

@@ -6,9 +6,12 @@ import java.util.List;
 import java.util.Map;
 import java.util.Random;
 
-/** All promises: long runs of drawn calls, always the same ones, on the class and on the Model alike. */
+/**
+ * All promises: runs of drawn calls, always the same ones, on the class and on the Model alike. What later calls than
+ * the 512th of an object answer is free: half of the runs look at all behind each call, the others go on for longer.
+ */
 public final class RandomRunsTest {
-    private static final int RUNS = 400, CALLS = 500;
+    private static final int RUNS = 2000, CALLS = 512, CALLS_AT_LAST = 17;
     private static final Map<String, Method> METHODS = new HashMap<>();
 
     private final Random random;
@@ -16,13 +19,16 @@ public final class RandomRunsTest {
     private final Model model = new Model();
     private final List<String> told = new ArrayList<>();
     private final boolean deep;
+    private final boolean close;
     private final int places;
+    private int calls;
     private final Map<String, Integer> answers;
     private boolean same = true;
 
     private RandomRunsTest(int run, Map<String, Integer> answers) {
         random = new Random(run);
         deep = run % 5 == 4;
+        close = run % 2 == 1;
         places = 1 + run % 6;
         this.answers = answers;
     }
@@ -66,8 +72,14 @@ public final class RandomRunsTest {
     }
 
     private boolean goes() {
-        for (int i = 0; i < CALLS && same; i++) draw();
+        while (same && hasCallsLeft()) draw();
+        for (int query = 0; query < CALLS_AT_LAST; query++) ask(query);
         return same;
+    }
+
+    /** For one call more, and what is looked at behind it. */
+    private boolean hasCallsLeft() {
+        return calls + 3 <= CALLS - CALLS_AT_LAST;
     }
 
     // ---- numbers
@@ -302,7 +314,8 @@ public final class RandomRunsTest {
     // ---- both
 
     private void call(String name, int... a) {
-        if (!same) return;
+        if (!same || !hasCallsLeft()) return;
+        calls++;
         StringBuilder line = new StringBuilder(name).append('(');
         for (int i = 0; i < a.length; i++) line.append(i == 0 ? "" : ", ").append(a[i]);
         int due = model.call(name, a);
@@ -310,14 +323,25 @@ public final class RandomRunsTest {
         told.add(line.append(") answered ").append(got).append(", due is ").append(due).toString());
         answers.merge(name + " " + (got >= 0 ? "+" : String.valueOf(got)), 1, Integer::sum);
         same = got == due;
-        compare("asked()", x.asked(), model.asked);
-        compare("strength()", x.strength(), model.strength);
-        compare("upper()", x.upper(), model.upper);
-        compare("lower()", x.lower(), model.lower);
-        compare("finding()", x.finding(), model.finding);
-        for (int f = 1; f <= 5; f++) compare("findings()", x.findings(f), model.found[f]);
-        for (int what = 0; what <= 5; what++) compare("count()", x.count(what), model.call("count", what));
-        compare("digest()", x.digest(), model.digest());
+        if (close) {
+            ask(0);
+            ask(1);
+        } else if (rarely(3)) {
+            ask(random.nextInt(CALLS_AT_LAST));
+        }
+    }
+
+    /** One of the calls that tell what there is. */
+    private void ask(int query) {
+        calls++;
+        if (query == 0) compare("asked()", x.asked(), model.asked);
+        else if (query == 1) compare("digest()", x.digest(), model.digest());
+        else if (query == 2) compare("strength()", x.strength(), model.strength);
+        else if (query == 3) compare("upper()", x.upper(), model.upper);
+        else if (query == 4) compare("lower()", x.lower(), model.lower);
+        else if (query == 5) compare("finding()", x.finding(), model.finding);
+        else if (query <= 10) compare("findings()", x.findings(query - 5), model.found[query - 5]);
+        else compare("count()", x.count(query - 11), model.call("count", query - 11));
     }
 
     private void compare(String what, long got, long due) {

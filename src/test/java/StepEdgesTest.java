@@ -8,11 +8,15 @@ public final class StepEdgesTest {
         windOnIce();
         noWaterNoFlow();
         bottomNotBelowTheLevel();
+        leastFlowIsHeldUp();
         asTheyWere();
         outAboveWater();
         outBySeveralSides();
+        outOfTheLeastFlows();
         whatComesInIsNotOut();
         stuffIsCut();
+        stuffByTheLeastFlows();
+        stuffEachWay();
         stuffAsItWas();
         stuffWithoutWater();
         riversAdd();
@@ -181,6 +185,25 @@ public final class StepEdgesTest {
         stepsTo(z, -30, 40, 0);
     }
 
+    private static void leastFlowIsHeldUp() {
+        Due.says("If it is above 0 .. or below 0 .. Also 0, if it would lead to a CELL of which the BOTTOM is not below");
+        for (int push : new int[] {1, 2}) {
+            for (int bottom : new int[] {99, 100}) {
+                int due = bottom == 100 ? 0 : push;
+                SeaCells x = Seas.two(100, 0);
+                x.bottom(0, 1, bottom);
+                x.law(0, 1, 1000);
+                x.wind(0, push, 0);
+                stepsTo(x, due, 100 - due, due);
+                SeaCells y = Seas.two(0, 100);
+                y.bottom(0, 0, bottom);
+                y.law(0, 1, 1000);
+                y.wind(0, -push, 0);
+                stepsTo(y, -due, due, 100 - due);
+            }
+        }
+    }
+
     private static void asTheyWere() {
         Due.says("(All by LEVELS and WATER as they were.)");
         SeaCells x = Seas.line(80, 0, 0, 80, 80);
@@ -228,6 +251,27 @@ public final class StepEdgesTest {
         Due.told(y, y.cell(0, 1, 1), 1);
     }
 
+    private static void outOfTheLeastFlows() {
+        Due.says("If OUT is above its WATER, each of these becomes FLOW times WATER by OUT, cut");
+        // a CELL from which this much leads away both ways, and what is left of that
+        int[][] due = {{1, 1, 0}, {1, 2, 1}, {2, 1, 0}, {2, 2, 1}, {2, 3, 1}, {2, 4, 2}, {3, 5, 2}, {3, 6, 3}};
+        for (int[] k : due) {
+            SeaCells x = Seas.line(500, k[1], 500);
+            x.bottom(0, 1, 500 + 2 * k[0] - k[1]);
+            x.step(0, 1);
+            Due.told(x, x.flow(0, 0), -k[2]);
+            Due.told(x, x.flow(0, 2), k[2]);
+            Due.told(x, x.cell(0, 1, 1), k[1] - 2 * k[2]);
+        }
+        // one way more than the other one
+        SeaCells y = Seas.line(498, 2, 496);
+        y.bottom(0, 1, 498);
+        y.step(0, 1);
+        // 1 and 2 of 2: 2 by 3 and 4 by 3
+        Due.told(y, y.flow(0, 0), 0);
+        Due.told(y, y.flow(0, 2), 1);
+    }
+
     private static void whatComesInIsNotOut() {
         Due.says("OUT of a CELL: the sum of all FLOWS that lead away from it; WATER (as it was)");
         // 45 comes in, 45 goes out, of 10 alone
@@ -259,6 +303,41 @@ public final class StepEdgesTest {
             Due.told(y, y.cell(0, 0, 4), k[1]);
             Due.told(y, y.cell(0, 1, 4), k[0] - k[1]);
         }
+    }
+
+    private static void stuffByTheLeastFlows() {
+        Due.says("Of each STUFF an outflow q of a CELL with WATER w takes along amount times q by w, cut");
+        for (int push : new int[] {1, 2, -1, -2}) {
+            int from = push > 0 ? 0 : 1;
+            SeaCells x = Seas.two(100, 100);
+            x.law(0, 1, 1000);
+            x.wind(0, push, 0);
+            x.spill(0, from, 0, 99);
+            x.spill(0, from, 1, 100);
+            x.spill(0, from, 2, 1000);
+            x.step(0, 1);
+            Due.told(x, x.flow(0, 0), push);
+            int[] taken = {(Math.abs(push) * 99) / 100, Math.abs(push), 10 * Math.abs(push)};
+            int[] had = {99, 100, 1000};
+            for (int k = 0; k < 3; k++) {
+                Due.told(x, x.cell(0, 1 - from, 3 + k), taken[k]);
+                Due.told(x, x.cell(0, from, 3 + k), had[k] - taken[k]);
+            }
+        }
+    }
+
+    private static void stuffEachWay() {
+        Due.says("an outflow q of a CELL .. takes along: to each CELL beside");
+        SeaCells x = new SeaCells();
+        x.board(0, 0, 5, 6);
+        for (int c = 0; c < 30; c++) x.water(0, c, 0);
+        x.water(0, 22, 400);
+        x.spill(0, 22, 1, 1000);
+        x.step(0, 1);
+        int[] beside = {23, 27, 21, 17};
+        for (int c : beside) Due.told(x, x.cell(0, c, 4), 250);
+        Due.told(x, x.cell(0, 22, 4), 0);
+        Due.told(x, x.told(0, 8), 1000);
     }
 
     private static void stuffAsItWas() {

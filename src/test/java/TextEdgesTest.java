@@ -16,6 +16,7 @@ public final class TextEdgesTest {
         firstFault();
         faultAtTheEnd();
         playedInOrder();
+        playedItemsLeaveTheOthers();
         playedTillAStepCannotBeDone();
         playedWithoutSteps();
         gatesOfNoSide();
@@ -233,6 +234,33 @@ public final class TextEdgesTest {
         Due.write(y, 0, "G0G0G0");
         Due.is(y.play(0, 0), 0);
         Due.is(y.gate(0, 0, false), 1);
+    }
+
+    private static void playedItemsLeaveTheOthers() {
+        Due.says("W x of WIND, V y of WIND, .. P PULL");
+        SeaCells x = new SeaCells();
+        x.board(0, 0, 2, 2);
+        x.law(0, 4, 1000);
+        x.wind(0, 7, 8);
+        for (int c = 0; c < 4; c++) x.water(0, c, 900);
+        x.keep(0, 1);
+        x.keep(0, 2);
+        x.keep(0, 3);
+        Due.write(x, 0, "W-20S1");
+        Due.write(x, 1, "V-30S1");
+        Due.write(x, 2, "P8S1");
+        int[][] due = {{-20, 8}, {7, -30}, {7, 8}};
+        for (int b = 0; b < 3; b++) {
+            Due.is(x.play(b, b), 1);
+            Due.told(x, x.flow(b, 0), due[b][0]);
+            Due.told(x, x.flow(b, 1), due[b][1]);
+            Due.told(x, x.flow(b, 3), due[b][1]);
+            Due.told(x, x.flow(b, 4), due[b][0]);
+        }
+        // P leaves DRAG: 8 times 15 by 8, and 7
+        x.water(3, 0, 915);
+        Due.is(x.play(3, 2), 1);
+        Due.told(x, x.flow(3, 0), 22);
     }
 
     private static void playedTillAStepCannotBeDone() {
