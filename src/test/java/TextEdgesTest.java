@@ -32,6 +32,7 @@ public final class TextEdgesTest {
         alarmBehindSomeStep();
         alarmOfWorldsThatStop();
         alarmOnCopies();
+        alarmShutsNoToldSide();
         alarmLevels();
         noWeights();
         fractions();
@@ -530,6 +531,27 @@ public final class TextEdgesTest {
         x.step(0, 1);
         Due.told(x, x.flow(0, 0), 45);
         Due.told(x, x.told(0, 5), 4);
+    }
+
+    private static void alarmShutsNoToldSide() {
+        Due.says("THE ALARM of a BOARD, a CELL and a LEVEL: .. PLAYED on a copy (told SIDES are shut for THE GATES alone)");
+        int[] sides = {0, 2, 4, 6};
+        for (int told = 0; told <= 4; told++) {
+            SeaCells x = Seas.line(100, 0, 100, 0, 100);
+            Due.write(x, 0, "S1");
+            x.world(0, 1);
+            for (int k = 0; k < told; k++) x.post(0, sides[k]);
+            // from both sides 45 comes
+            for (int cell = 1; cell < 4; cell += 2) {
+                Due.is(x.alarm(0, cell, 90), 1);
+                Due.is(x.upper(), 1);
+            }
+            // of the four ways each one told can hold it up
+            Due.is(x.gates(0, 3, 90), told < 3 ? 0 : 4);
+            Due.is(x.upper(), told < 3 ? 1 : 0);
+            Due.is(x.alarm(0, 3, 90), 1);
+            Due.is(x.upper(), 1);
+        }
     }
 
     private static void alarmLevels() {
